@@ -1,0 +1,196 @@
+import java.util.Random;
+
+/** Promises 1 to 18: seeded runs of calls, each answer compared with that of the second reading. */
+public final class RandomRunsTest {
+    private static final int RUNS = 2000;
+    private static final int CALLS = 512;
+    private static final int[] ODD_NUMBERS = {-1, 0, 2, 24, 25, 99, 7, 8, Integer.MIN_VALUE, Integer.MAX_VALUE};
+    private static final int[] VALUES = {0, 1, 20, 40, 255, 256, 65535, 65536, 16777215, 16777216, -1};
+    private static final int[] KINDS = {0, 1, 3, 4, 7, 8};
+    private static final int[] SETTINGS = {1, 3, 4};
+
+    private final Due due;
+    private final Random random;
+    private final int run;
+    /** How many of a thousand calls inject a frame, and how many arguments are wrong. */
+    private final int strangeness;
+    private final boolean gentle;
+    private final InterleavedLink x = new InterleavedLink();
+    private final SecondReading y = new SecondReading();
+
+    private RandomRunsTest(Due due, int run) {
+        this.due = due;
+        this.run = run;
+        this.random = new Random(run);
+        this.strangeness = new int[] {0, 5, 20, 80}[run % 4];
+        this.gentle = run % 8 < 4;
+    }
+
+    public static void main(String[] args) {
+        Due due = new Due();
+        for (int run = 0; run < RUNS && due.wrong() == 0; run++) {
+            new RandomRunsTest(due, run).go();
+        }
+        due.finish();
+    }
+
+    private void go() {
+        for (int call = 0; call < CALLS && due.wrong() == 0; call++) {
+            if (random.nextInt(1000) < strangeness) {
+                injectOne();
+            } else {
+                callOne();
+            }
+            if (call % 37 == 0) {
+                compareAll();
+            }
+        }
+        compareAll();
+    }
+
+    private boolean rarely() {
+        return random.nextInt(1000) < strangeness / 2 + 1;
+    }
+
+    private int pick(int[] from) {
+        return from[random.nextInt(from.length)];
+    }
+
+    private int end() {
+        return rarely() ? pick(ODD_NUMBERS) : random.nextInt(2);
+    }
+
+    private int stream() {
+        if (rarely()) {
+            return pick(ODD_NUMBERS);
+        }
+        int near = random.nextInt(3) == 0 ? 12 : 4;
+        return 2 * random.nextInt(near) + 1;
+    }
+
+    private int upTo(int most) {
+        return rarely() ? pick(ODD_NUMBERS) : random.nextInt(most + 1);
+    }
+
+    private int value() {
+        return random.nextInt(3) == 0 ? pick(VALUES) : random.nextInt(4);
+    }
+
+    private void is(String call, long got, long want) {
+        due.is("run " + run + ": " + call, got, want);
+    }
+
+    private void is(String call, boolean got, boolean want) {
+        is(call, got ? 1 : 0, want ? 1 : 0);
+    }
+
+    private void callOne() {
+        boolean flag = random.nextInt(gentle ? 6 : 2) == 0;
+        switch (random.nextInt(22)) {
+            case 0, 1, 2 -> header(end());
+            case 3, 4 -> is("request(" + flag + ")", x.request(flag), y.request(flag));
+            case 5, 6 -> respond(stream(), flag);
+            case 7, 8, 9 -> write(end(), stream(), flag);
+            case 10, 11 -> pump(end(), upTo(8));
+            case 12, 13 -> read(end(), stream(), upTo(7));
+            case 14 -> settingOrReset(end());
+            default -> deliver(end());
+        }
+    }
+
+    private void header(int end) {
+        int name = upTo(random.nextInt(3) == 0 ? 15 : 4);
+        int value = value();
+        boolean secret = random.nextInt(4) == 0;
+        is("header(" + end + ", " + name + ", " + value + ", " + secret + ")",
+                x.header(end, name, value, secret), y.header(end, name, value, secret));
+    }
+
+    private void respond(int stream, boolean flag) {
+        is("respond(" + stream + ", " + flag + ")", x.respond(stream, flag), y.respond(stream, flag));
+    }
+
+    private void write(int end, int stream, boolean flag) {
+        long bytes = random.nextLong();
+        int n = upTo(8);
+        is("write(" + end + ", " + stream + ", " + bytes + ", " + n + ", " + flag + ")",
+                x.write(end, stream, bytes, n, flag), y.write(end, stream, bytes, n, flag));
+    }
+
+    private void pump(int end, int n) {
+        is("pump(" + end + ", " + n + ")", x.pump(end, n), y.pump(end, n));
+    }
+
+    private void read(int end, int stream, int n) {
+        is("read(" + end + ", " + stream + ", " + n + ")", x.read(end, stream, n), y.read(end, stream, n));
+    }
+
+    private void settingOrReset(int end) {
+        if (random.nextInt(3) == 0) {
+            int stream = stream();
+            int code = upTo(15);
+            is("reset(" + end + ", " + stream + ", " + code + ")", x.reset(end, stream, code), y.reset(end, stream, code));
+            return;
+        }
+        int setting = rarely() ? upTo(9) : pick(SETTINGS);
+        int value = setting == 3 && gentle ? 4 + upTo(8) : upTo(setting == 1 ? 200 : setting == 3 ? 13 : 64);
+        is("setting(" + end + ", " + setting + ", " + value + ")", x.setting(end, setting, value), y.setting(end, setting, value));
+    }
+
+    private void deliver(int end) {
+        int times = random.nextInt(4) == 0 ? 4 : 1;
+        for (int k = 0; k < times; k++) {
+            is("deliver(" + end + ")", x.deliver(end), y.deliver(end));
+        }
+    }
+
+    private void injectOne() {
+        int end = end();
+        int kind = rarely() ? random.nextInt(10) : pick(KINDS);
+        if (kind == 7 && random.nextInt(4) != 0) {
+            kind = 8;
+        }
+        int stream = kind == 4 ? random.nextInt(6) : kind == 8 && random.nextInt(3) == 0 ? 0 : stream();
+        int number = switch (random.nextInt(10)) {
+            case 0 -> pick(ODD_NUMBERS);
+            case 1, 2 -> random.nextInt(200);
+            default -> random.nextInt(16);
+        };
+        boolean flag = random.nextInt(kind == 4 ? 6 : 3) == 0;
+        is("inject(" + end + ", " + kind + ", " + stream + ", " + number + ", " + flag + ")",
+                x.inject(end, kind, stream, number, flag), y.inject(end, kind, stream, number, flag));
+    }
+
+    private void compareAll() {
+        for (int end = -1; end <= 2; end++) {
+            is("down(" + end + ")", x.down(end), y.down(end));
+            for (int stream = -1; stream <= 25; stream++) {
+                compareStream(end, stream);
+            }
+            for (int k = -3; k <= 6; k++) {
+                is("table(" + end + ", false, " + k + ")", x.table(end, false, k), y.table(end, false, k));
+                is("table(" + end + ", true, " + k + ")", x.table(end, true, k), y.table(end, true, k));
+            }
+            for (int k = -1; k <= 45; k++) {
+                for (int what = -1; what <= 5; what++) {
+                    is("frame(" + end + ", " + k + ", " + what + ")", x.frame(end, k, what), y.frame(end, k, what));
+                }
+            }
+        }
+    }
+
+    private void compareStream(int end, int stream) {
+        String at = "(" + end + ", " + stream + ", ..)";
+        is("state" + at, x.state(end, stream), y.state(end, stream));
+        for (boolean receiving = false; ; receiving = true) {
+            is("window" + at, x.window(end, stream, receiving), y.window(end, stream, receiving));
+            is("bytes" + at, x.bytes(end, stream, receiving), y.bytes(end, stream, receiving));
+            for (int k = -1; k <= 6; k++) {
+                is("field" + at, x.field(end, stream, k, receiving), y.field(end, stream, k, receiving));
+            }
+            if (receiving) {
+                return;
+            }
+        }
+    }
+}
