@@ -155,6 +155,20 @@ public final class BlocksTest {
         x.setting(0, 1, 0);
         Scenes.settle(x);
         due.is("the other way", x.table(1, false, -2), 100);
+        longest(due);
+    }
+
+    private static void longest(Due due) {
+        InterleavedLink x = limited(50);
+        x.setting(1, 1, 200);
+        Scenes.settle(x);
+        for (int k = 1; k <= 6; k++) {
+            x.header(0, 10, k, true);
+        }
+        x.request(true);
+        due.frame("two maximums and six fields", x, 1, 0, 1, 1, 8, 1, 250);
+        due.is("deliver", x.deliver(1), 0);
+        due.is("the last field", x.field(1, 1, 5, true), 6);
     }
 
     private static void nameOfADroppedField(Due due) {

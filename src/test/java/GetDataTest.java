@@ -106,13 +106,23 @@ public final class GetDataTest {
         due.frame("RESET 3", x, 0, 0, 3, 3, 3, 0, 0);
         due.frame("both given back", x, 0, 1, 8, 0, 17, 0, 0);
         due.is("CLOSED", x.state(1, 3), 4);
+        x.inject(1, 0, 1, 0, false);
+        due.is("HALF REMOTE, no byte", x.deliver(1), 5);
         x.inject(1, 0, 5, 10, false);
         x.deliver(1);
+        x.setting(1, 4, 10);
+        Scenes.settle(x);
+        due.is("none left", x.window(1, 5, true), 0);
         x.setting(1, 4, 0);
         Scenes.settle(x);
         due.is("below 0", x.window(1, 5, true), -10);
         x.inject(1, 0, 5, 0, true);
         due.is("no byte is never above", x.deliver(1), 0);
         due.is("END got", x.state(1, 5), 3);
+        InterleavedLink y = Scenes.responded(1);
+        y.setting(1, 4, 0);
+        Scenes.settle(y);
+        y.inject(1, 0, 1, 1, false);
+        due.is("1 of 0", y.deliver(1), 3);
     }
 }

@@ -72,12 +72,14 @@ public final class GetHeadersTest {
         due.frame("RESET 1", x, 0, 0, 3, 1, 1, 0, 0);
         due.frame("unread given back", x, 0, 1, 8, 0, 5, 0, 0);
         due.is("the first list stays", x.field(1, 1, 0, true), 0);
-        x.write(0, 3, 0, 0, true);
+        x.write(0, 3, 0, 3, true);
         x.pump(0, 1);
         Scenes.settle(x);
         x.inject(1, 1, 3, 4, false);
         due.is("HALF REMOTE", x.deliver(1), 5);
         due.frame("RESET 5", x, 0, 0, 3, 3, 5, 0, 0);
+        due.frame("unread given back", x, 0, 1, 8, 0, 3, 0, 0);
+        due.is("the window of the link", x.window(1, 0, true), 40);
         Scenes.settle(x);
         x.inject(0, 1, 5, 4, false);
         due.is("twice at end 0", x.deliver(0), 1);

@@ -61,6 +61,17 @@ public final class GetOthersTest {
         due.is("no ACK for an ACK", Scenes.count(y, 1), 2);
         y.deliver(1);
         due.is("one too many", y.deliver(0), 101);
+        InterleavedLink z = Scenes.requested(1);
+        z.setting(0, 1, 5);
+        z.setting(0, 4, 6);
+        z.setting(0, 3, 7);
+        z.setting(0, 4, 8);
+        int[] receive = {16, 6, 6, 8};
+        for (int k = 0; k < 4; k++) {
+            z.inject(0, 4, 0, 0, true);
+            z.deliver(0);
+            due.is("in the order of the SETTINGS", z.window(0, 1, true), receive[k]);
+        }
     }
 
     private static void settings(Due due) {
@@ -127,8 +138,11 @@ public final class GetOthersTest {
         due.frame("RESET 3", x, 0, 0, 3, 1, 3, 0, 0);
         due.frame("unread given back", x, 0, 1, 8, 0, 6, 0, 0);
         due.is("on CLOSED", got(x, 1, 8, 1, 0), 0);
+        got(x, 1, 0, 3, 7);
         due.is("0", got(x, 1, 8, 3, 0), 1);
         due.frame("RESET 1", x, 0, 2, 3, 3, 1, 0, 0);
+        due.frame("unread given back", x, 0, 3, 8, 0, 7, 0, 0);
+        due.is("no more", Scenes.count(x, 0), 4);
         due.is("the most", got(x, 1, 8, 5, Integer.MAX_VALUE), 3);
         due.is("the least", got(x, 1, 8, 7, Integer.MIN_VALUE), 1);
         due.is("the link's window stays", x.window(1, 0, false), 40);

@@ -6,6 +6,7 @@ public final class PumpTest {
         turns(due);
         sizes(due);
         ends(due);
+        leastWindows(due);
         negativeWindow(due);
         full(due);
         due.finish();
@@ -92,6 +93,26 @@ public final class PumpTest {
         x.write(0, 5, 0, 1, false);
         x.reset(0, 5, 0);
         due.is("nothing of a cut stream", x.pump(0, 8), 0);
+    }
+
+    private static void leastWindows(Due due) {
+        InterleavedLink x = Scenes.responded(1);
+        x.inject(0, 4, 4, 1, false);
+        Scenes.drain(x, 0);
+        x.write(0, 1, 0, 8, true);
+        due.is("a stream's window of 1", x.pump(0, 8), 1);
+        due.frame("one byte", x, 1, 1, 0, 1, 1, 0, 0);
+        InterleavedLink y = Scenes.responded(4);
+        for (int stream = 1; stream <= 7; stream += 2) {
+            y.write(0, stream, 0, 8, false);
+            y.write(0, stream, 0, stream == 7 ? 8 : 5, false);
+        }
+        y.pump(0, 8);
+        due.is("the link's window", y.window(0, 0, false), 0);
+        y.inject(0, 8, 0, 1, false);
+        y.deliver(0);
+        due.is("the link's window of 1", y.pump(0, 8), 1);
+        due.is("none", y.pump(0, 8), 0);
     }
 
     private static void negativeWindow(Due due) {

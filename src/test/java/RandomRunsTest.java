@@ -12,7 +12,7 @@ public final class RandomRunsTest {
     private final Due due;
     private final Random random;
     private final int run;
-    /** How many of a thousand calls inject a frame, and how many arguments are wrong. */
+    /** Of a thousand calls so many inject a frame. */
     private final int strangeness;
     private final boolean gentle;
     private final InterleavedLink x = new InterleavedLink();
@@ -22,7 +22,7 @@ public final class RandomRunsTest {
         this.due = due;
         this.run = run;
         this.random = new Random(run);
-        this.strangeness = new int[] {0, 5, 20, 80}[run % 4];
+        this.strangeness = new int[] {0, 5, 40, 150}[run % 4];
         this.gentle = run % 8 < 4;
     }
 
@@ -49,7 +49,7 @@ public final class RandomRunsTest {
     }
 
     private boolean rarely() {
-        return random.nextInt(1000) < strangeness / 2 + 1;
+        return random.nextInt(1000) < (strangeness == 0 ? 0 : 4);
     }
 
     private int pick(int[] from) {
@@ -58,6 +58,13 @@ public final class RandomRunsTest {
 
     private int end() {
         return rarely() ? pick(ODD_NUMBERS) : random.nextInt(2);
+    }
+
+    /** In some runs an end seldom gets its frames, so that the pipe towards it fills. */
+    private int gettingEnd() {
+        int slow = run / 8 % 4;
+        int end = end();
+        return end == slow && random.nextInt(12) != 0 ? 1 - end : end;
     }
 
     private int stream() {
@@ -94,7 +101,7 @@ public final class RandomRunsTest {
             case 10, 11 -> pump(end(), upTo(8));
             case 12, 13 -> read(end(), stream(), upTo(7));
             case 14 -> settingOrReset(end());
-            default -> deliver(end());
+            default -> deliver(gettingEnd());
         }
     }
 
@@ -150,13 +157,24 @@ public final class RandomRunsTest {
         if (kind == 7 && random.nextInt(4) != 0) {
             kind = 8;
         }
-        int stream = kind == 4 ? random.nextInt(6) : kind == 8 && random.nextInt(3) == 0 ? 0 : stream();
-        int number = switch (random.nextInt(10)) {
+        int stream = stream();
+        for (int k = 0; k < 6 && x.state(end, stream) < 1 && random.nextInt(30) != 0; k++) {
+            stream = stream();
+        }
+        if (kind == 4) {
+            stream = random.nextInt(6);
+        } else if (kind == 8 && random.nextInt(4) == 0) {
+            stream = 0;
+        }
+        int number = switch (random.nextInt(40)) {
             case 0 -> pick(ODD_NUMBERS);
-            case 1, 2 -> random.nextInt(200);
-            default -> random.nextInt(16);
+            case 1 -> random.nextInt(200);
+            default -> 1 + random.nextInt(kind == 1 ? 6 : kind == 4 ? 12 : 15);
         };
-        boolean flag = random.nextInt(kind == 4 ? 6 : 3) == 0;
+        if (kind == 8 && stream != 0) {
+            number = random.nextInt(6) == 0 ? -random.nextInt(2) : random.nextInt(195);
+        }
+        boolean flag = random.nextInt(kind == 4 ? 12 : 3) == 0;
         is("inject(" + end + ", " + kind + ", " + stream + ", " + number + ", " + flag + ")",
                 x.inject(end, kind, stream, number, flag), y.inject(end, kind, stream, number, flag));
     }
