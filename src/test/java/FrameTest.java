@@ -37,7 +37,7 @@ public final class FrameTest {
         InterleavedLink x = Scenes.requested(1);
         x.reset(1, 1, 0);
         int sent = 0;
-        for (int got = 1; got <= 100; got++) {
+        for (int got = 1; got <= 70; got++) {
             while (sent < got + 28) {
                 sent++;
                 x.inject(1, 3, 1, sent, false);

@@ -2,7 +2,7 @@ import java.util.Random;
 
 /** Promises 1 to 18: seeded runs of calls, each answer compared with that of the second reading. */
 public final class RandomRunsTest {
-    private static final int RUNS = 2000;
+    private static final int RUNS = 8000;
     private static final int CALLS = 512;
     private static final int[] ODD_NUMBERS = {-1, 0, 2, 24, 25, 99, 7, 8, Integer.MIN_VALUE, Integer.MAX_VALUE};
     private static final int[] VALUES = {0, 1, 20, 40, 255, 256, 65535, 65536, 16777215, 16777216, -1};
@@ -17,6 +17,7 @@ public final class RandomRunsTest {
     private final boolean gentle;
     private final InterleavedLink x = new InterleavedLink();
     private final SecondReading y = new SecondReading();
+    private int calls = 0;
 
     private RandomRunsTest(Due due, int run) {
         this.due = due;
@@ -35,17 +36,16 @@ public final class RandomRunsTest {
     }
 
     private void go() {
-        for (int call = 0; call < CALLS && due.wrong() == 0; call++) {
-            if (random.nextInt(1000) < strangeness) {
+        int changesOfTen = 5 + run % 5;
+        while (calls < CALLS && due.wrong() == 0) {
+            if (random.nextInt(10) >= changesOfTen) {
+                look();
+            } else if (random.nextInt(1000) < strangeness) {
                 injectOne();
             } else {
                 callOne();
             }
-            if (call % 37 == 0) {
-                compareAll();
-            }
         }
-        compareAll();
     }
 
     private boolean rarely() {
@@ -84,6 +84,7 @@ public final class RandomRunsTest {
     }
 
     private void is(String call, long got, long want) {
+        calls++;
         due.is("run " + run + ": " + call, got, want);
     }
 
@@ -146,7 +147,7 @@ public final class RandomRunsTest {
 
     private void deliver(int end) {
         int times = random.nextInt(4) == 0 ? 4 : 1;
-        for (int k = 0; k < times; k++) {
+        for (int k = 0; k < times && calls < CALLS; k++) {
             is("deliver(" + end + ")", x.deliver(end), y.deliver(end));
         }
     }
@@ -158,7 +159,7 @@ public final class RandomRunsTest {
             kind = 8;
         }
         int stream = stream();
-        for (int k = 0; k < 6 && x.state(end, stream) < 1 && random.nextInt(30) != 0; k++) {
+        for (int k = 0; k < 6 && y.state(end, stream) < 1 && random.nextInt(30) != 0; k++) {
             stream = stream();
         }
         if (kind == 4) {
@@ -179,36 +180,38 @@ public final class RandomRunsTest {
                 x.inject(end, kind, stream, number, flag), y.inject(end, kind, stream, number, flag));
     }
 
-    private void compareAll() {
-        for (int end = -1; end <= 2; end++) {
-            is("down(" + end + ")", x.down(end), y.down(end));
-            for (int stream = -1; stream <= 25; stream++) {
-                compareStream(end, stream);
-            }
-            for (int k = -3; k <= 6; k++) {
-                is("table(" + end + ", false, " + k + ")", x.table(end, false, k), y.table(end, false, k));
-                is("table(" + end + ", true, " + k + ")", x.table(end, true, k), y.table(end, true, k));
-            }
-            for (int k = -1; k <= 45; k++) {
-                for (int what = -1; what <= 5; what++) {
-                    is("frame(" + end + ", " + k + ", " + what + ")", x.frame(end, k, what), y.frame(end, k, what));
-                }
-            }
+    private void look() {
+        int end = end();
+        int stream = stream();
+        boolean flag = random.nextBoolean();
+        String at = "(" + end + ", " + stream + ", " + flag + ")";
+        switch (random.nextInt(10)) {
+            case 0 -> is("down(" + end + ")", x.down(end), y.down(end));
+            case 1 -> is("state" + at, x.state(end, stream), y.state(end, stream));
+            case 2 -> is("window" + at, x.window(end, stream, flag), y.window(end, stream, flag));
+            case 3 -> is("window of the link" + at, x.window(end, 0, flag), y.window(end, 0, flag));
+            case 4 -> is("bytes" + at, x.bytes(end, stream, flag), y.bytes(end, stream, flag));
+            case 5 -> lookAtField(end, stream, upTo(6), flag);
+            case 6, 7 -> lookAtTable(end, flag, upTo(9) - 3);
+            default -> lookAtFrame(end, upTo(5));
         }
     }
 
-    private void compareStream(int end, int stream) {
-        String at = "(" + end + ", " + stream + ", ..)";
-        is("state" + at, x.state(end, stream), y.state(end, stream));
-        for (boolean receiving = false; ; receiving = true) {
-            is("window" + at, x.window(end, stream, receiving), y.window(end, stream, receiving));
-            is("bytes" + at, x.bytes(end, stream, receiving), y.bytes(end, stream, receiving));
-            for (int k = -1; k <= 6; k++) {
-                is("field" + at, x.field(end, stream, k, receiving), y.field(end, stream, k, receiving));
-            }
-            if (receiving) {
-                return;
-            }
+    private void lookAtField(int end, int stream, int k, boolean value) {
+        is("field(" + end + ", " + stream + ", " + k + ", " + value + ")",
+                x.field(end, stream, k, value), y.field(end, stream, k, value));
+    }
+
+    private void lookAtTable(int end, boolean getting, int k) {
+        is("table(" + end + ", " + getting + ", " + k + ")", x.table(end, getting, k), y.table(end, getting, k));
+    }
+
+    private void lookAtFrame(int end, int what) {
+        int count = 0;
+        while (y.frame(end, count, 0) != -1) {
+            count++;
         }
+        int k = random.nextInt(3) == 0 ? count - 1 : random.nextInt(count + 2) - 1;
+        is("frame(" + end + ", " + k + ", " + what + ")", x.frame(end, k, what), y.frame(end, k, what));
     }
 }
