@@ -178,6 +178,7 @@ public final class EdgesOfBlocksTest {
             x.header(0, fixed[k][0], fixed[k][1], false);
             x.request(false);
             due.frame("INDEXED " + (k + 1), x, 1, 0, 1, 1, 1, 0, k + 1);
+            due.is("not added", x.table(0, false, -1), 0);
             InterleavedLink y = new InterleavedLink();
             due.is("deliver", Scenes.got(y, 1, 1, 1, k + 1), 0);
             due.is("name", y.field(1, 1, 0, false), fixed[k][0]);
@@ -337,15 +338,17 @@ public final class EdgesOfBlocksTest {
         int[][] rows = {{0, 1}, {1, 3}, {2, 4}, {3, 6}, {4, 0}, {9, 7}, {10, 8}};
         for (int[] row : rows) {
             InterleavedLink x = new InterleavedLink();
-            x.header(0, 10, 5, false);
-            x.header(0, 9, 5, false);
+            x.header(0, 10, 3, false);
+            x.header(0, 9, 4, false);
             x.request(true);
             x.header(0, row[0], 5, true);
             x.request(true);
             due.frame("SECRET of the name " + row[0], x, 1, 1, 1, 3, 1, 1, row[1]);
             due.is("not added", x.table(0, false, -1), 68);
+            due.is("the newest stays", x.table(0, false, 0), 4);
             Scenes.settle(x);
             due.is("not added by the getter", x.table(1, true, -1), 68);
+            due.is("the newest stays", x.table(1, true, 0), 4);
             due.is("name", x.field(1, 3, 0, false), row[0]);
             due.is("value", x.field(1, 3, 0, true), 5);
         }

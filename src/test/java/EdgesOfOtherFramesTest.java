@@ -371,6 +371,13 @@ public final class EdgesOfOtherFramesTest {
         }
     }
 
+    /** A link on which stream 1 is ACTIVE in this way at the end and has 9 unread bytes there. */
+    private static InterleavedLink withUnread(int state, int end) {
+        InterleavedLink x = Scenes.in(state == Scenes.HALF_LOCAL ? state : Scenes.OPEN, end);
+        Scenes.got(x, end, 0, 1, 9, state == Scenes.HALF_REMOTE);
+        return x;
+    }
+
     private static void streamTooSmall(Due due) {
         for (int end = 0; end < 2; end++) {
             for (int state = Scenes.OPEN; state <= Scenes.HALF_REMOTE; state++) {
@@ -378,6 +385,9 @@ public final class EdgesOfOtherFramesTest {
                     InterleavedLink x = Scenes.in(state, end);
                     x.inject(end, 8, 1, increment, false);
                     due.streamError("WINDOW " + increment, x, end, 1, 0);
+                    InterleavedLink y = withUnread(state, end);
+                    y.inject(end, 8, 1, increment, false);
+                    due.streamError("WINDOW " + increment + " with unread bytes", y, end, 1, 9);
                 }
                 due.is("1", Scenes.got(Scenes.in(state, end), end, 8, 1, 1), 0);
             }
@@ -391,6 +401,9 @@ public final class EdgesOfOtherFramesTest {
                     InterleavedLink x = Scenes.in(state, end);
                     x.inject(end, 8, 1, increment, false);
                     due.streamError("WINDOW " + increment, x, end, 3, 0);
+                    InterleavedLink y = withUnread(state, end);
+                    y.inject(end, 8, 1, increment, false);
+                    due.streamError("WINDOW " + increment + " with unread bytes", y, end, 3, 9);
                 }
                 InterleavedLink x = Scenes.in(state, end);
                 due.is("184", Scenes.got(x, end, 8, 1, 184), 0);

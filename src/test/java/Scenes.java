@@ -20,6 +20,9 @@ final class Scenes {
     static final int CLOSED = 4;
     static final int CUT = 5;
 
+    /** More than a pipe ever holds; the loops end there, so that a fault cannot keep a test running. */
+    private static final int PIPE_BOUND = 60;
+
     /** Ends that there are not. */
     static final int[] NO_ENDS = {-1, 2, Integer.MIN_VALUE, Integer.MAX_VALUE};
     /** Numbers of no stream; 0 is among them. */
@@ -31,7 +34,7 @@ final class Scenes {
 
     static int count(InterleavedLink x, int end) {
         int k = 0;
-        while (x.frame(end, k, 0) != NONE) {
+        while (k < PIPE_BOUND && x.frame(end, k, 0) != NONE) {
             k++;
         }
         return k;
@@ -39,18 +42,20 @@ final class Scenes {
 
     /** Delivers all that is in the pipe towards the end. */
     static void drain(InterleavedLink x, int end) {
-        int answer = x.deliver(end);
-        while (answer >= 0) {
-            answer = x.deliver(end);
+        int k = 0;
+        while (k < PIPE_BOUND && x.deliver(end) >= 0) {
+            k++;
         }
     }
 
     /** Delivers until both pipes are empty. */
     static void settle(InterleavedLink x) {
+        int k = 0;
         do {
             drain(x, 0);
             drain(x, 1);
-        } while (x.frame(0, 0, 0) != NONE);
+            k++;
+        } while (k < PIPE_BOUND && x.frame(0, 0, 0) != NONE);
     }
 
     /** The end gets a frame that nobody sent; its pipe must be empty. Answers what deliver answers. */
