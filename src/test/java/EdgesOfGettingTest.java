@@ -139,6 +139,10 @@ public final class EdgesOfGettingTest {
                 due.frames("in the state " + state, x, 1 - end, both ? 2 : 1);
                 due.is("its receive window", x.window(end, 1, true), state == 4 ? 0 : both ? 14 : 10);
             }
+            InterleavedLink fewer = unread(end, 6);
+            fewer.read(end, 1, 7);
+            due.frame("as many as were taken", fewer, 1 - end, 1, 8, 1, 6, 0, 0);
+            due.is("as many as were taken", fewer.window(end, 1, true), 16);
             InterleavedLink x = Scenes.responded(1);
             x.read(end, 1, 1);
             due.is("none was taken", x.window(end, 1, true), 16);
@@ -502,7 +506,7 @@ public final class EdgesOfGettingTest {
                 due.is("each comes", x.deliver(1 - end), 0);
             }
             due.is("RESET came", x.state(1 - end, 1), 4);
-            due.is("all WINDOWs came", x.window(1 - end, 0, false), 40 + 9 + 7);
+            due.is("all WINDOWs came", x.window(1 - end, 0, false), 40 + 30 + 9 + 7);
         }
     }
 

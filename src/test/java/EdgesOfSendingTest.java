@@ -594,13 +594,16 @@ public final class EdgesOfSendingTest {
         y.write(1, 5, 0, 1, false);
         y.pump(1, 1);
         due.is("the other end has its own turns", y.frame(0, 0, 1), 1);
-        InterleavedLink z = Scenes.responded(3);
-        z.write(0, 3, 0, 1, true);
-        z.pump(0, 8);
-        z.write(0, 1, 0, 1, false);
-        z.write(0, 5, 0, 1, false);
-        z.pump(0, 1);
-        due.is("behind 3, which has ended", z.frame(1, 1, 1), 5);
+        for (int n = 0; n < 2; n++) {
+            InterleavedLink z = Scenes.responded(4);
+            z.write(0, 1, 0, 1, false);
+            z.write(0, 5, 0, n, true);
+            due.is("1 and 5", z.pump(0, 8), 2);
+            z.write(0, 3, 0, 1, false);
+            z.write(0, 7, 0, 1, false);
+            z.pump(0, 1);
+            due.is("behind 5, which has ended with " + n + " bytes", z.frame(1, 2, 1), 7);
+        }
     }
 
     private static void pumpFirst(Due due) {

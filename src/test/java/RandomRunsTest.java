@@ -76,7 +76,10 @@ public final class RandomRunsTest {
     }
 
     private int upTo(int most) {
-        return rarely() ? pick(ODD_NUMBERS) : random.nextInt(most + 1);
+        if (rarely()) {
+            return random.nextBoolean() ? most + 1 : pick(ODD_NUMBERS);
+        }
+        return random.nextInt(most + 1);
     }
 
     private int value() {

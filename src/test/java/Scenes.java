@@ -128,10 +128,10 @@ final class Scenes {
         x.deliver(end);
     }
 
-    /** Puts frames into the empty pipe towards the end, at most 30. */
+    /** Puts frames into the empty pipe towards the end, at most 30; each lets the end send one byte more. */
     static void fill(InterleavedLink x, int end, int frames) {
         for (int k = 0; k < frames; k++) {
-            x.inject(end, SETTINGS, 9, 0, false);
+            x.inject(end, WINDOW, 0, 1, false);
         }
     }
 

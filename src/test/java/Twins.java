@@ -95,12 +95,16 @@ final class Twins {
                 add(answers, x.write(end, stream, 5, 1, false), x.read(end, stream, 1));
             }
             add(answers, x.pump(end, 1), x.header(end, 9, 300, false));
-            for (int k = 0; k < 9; k++) {
-                add(answers, x.setting(end, 4, 20) ? 1 : 0);
-            }
+            settings(x, end, answers);
         }
         add(answers, x.request(false), x.respond(1, false), x.respond(3, false));
         frames(x, 0, answers);
+    }
+
+    private static void settings(InterleavedLink x, int end, List<Long> answers) {
+        for (int k = 0; k < 9; k++) {
+            add(answers, x.setting(end, 4, 20) ? 1 : 0);
+        }
     }
 
     /** All that is on its way comes, and what was told and is in force shows in a new stream. */
@@ -111,6 +115,8 @@ final class Twins {
         add(answers, x.header(0, 9, 301, false), x.request(false), x.deliver(1));
         add(answers, x.header(1, 9, 302, false), x.respond(1, false), x.pump(1, 8), x.pump(0, 8));
         statesAndWindows(x, answers);
+        settings(x, 0, answers);
+        settings(x, 1, answers);
         add(answers, x.frame(0, 0, 4), x.frame(0, 1, 2), x.frame(1, 0, 4), x.frame(1, 1, 2));
     }
 }
