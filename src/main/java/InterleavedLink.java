@@ -94,7 +94,7 @@ public final class InterleavedLink {
     public int respond(int stream, boolean last) {
         End here = upEndOf(1);
         Stream its = streamOf(here, stream);
-        if (its == null || !its.maySend() || its.headersSent || here.making.count == 0) {
+        if (here == null || its == null || !its.maySend() || its.headersSent || here.making.count == 0) {
             return NONE;
         }
         if (here.outgoing.isFull()) {
@@ -129,7 +129,7 @@ public final class InterleavedLink {
     public long read(int end, int stream, int n) {
         End here = upEndOf(end);
         Stream its = streamOf(here, stream);
-        if (its == null || its.state == IDLE || !isWithin(n, 1, READ_BYTES)) {
+        if (here == null || its == null || its.state == IDLE || !isWithin(n, 1, READ_BYTES)) {
             return NONE;
         }
         if (here.outgoing.isFull()) {
@@ -141,7 +141,10 @@ public final class InterleavedLink {
     public boolean reset(int end, int stream, int code) {
         End here = upEndOf(end);
         Stream its = streamOf(here, stream);
-        if (its == null || !its.isActive() || !isWithin(code, 0, TOP_CODE) || here.outgoing.isFull()) {
+        if (here == null || its == null || !its.isActive() || !isWithin(code, 0, TOP_CODE)) {
+            return false;
+        }
+        if (here.outgoing.isFull()) {
             return false;
         }
         here.endWithReset(its, code, 0);

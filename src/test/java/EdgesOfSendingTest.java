@@ -26,6 +26,8 @@ public final class EdgesOfSendingTest {
         s.holds("4: NONE when the list is empty", EdgesOfSendingTest::respondEmpty);
         s.holds("4: FULL for end 1", EdgesOfSendingTest::respondFull);
         s.holds("5: the lowest 8 bits of bytes first, behind those that wait", EdgesOfSendingTest::writeOrder);
+        s.holds("5: behind those of the stream that wait to be sent, for as long as it goes on",
+                EdgesOfSendingTest::writeGoesOn);
         s.holds("5: with last, no more follow", EdgesOfSendingTest::writeLast);
         s.holds("5: NONE when the end is not 0 or 1 or is down", EdgesOfSendingTest::writeEnd);
         s.holds("5: NONE when the stream is not OPEN or HALF REMOTE there (or no stream)",
@@ -331,6 +333,36 @@ public final class EdgesOfSendingTest {
             due.is("the next seven", x.read(1 - end, 1, 7), 0x010203040506A7L);
             due.is("the rest", x.read(1 - end, 1, 7), 0x80FFL);
         }
+    }
+
+    /** The bytes are numbered 1, 2, ..; they are written, sent and read in portions that differ. */
+    private static void writeGoesOn(Due due) {
+        InterleavedLink x = Scenes.requested(1);
+        int written = 0;
+        int read = 0;
+        for (int round = 0; round < 30; round++) {
+            int n = round * 5 % 9;
+            long bytes = 0;
+            for (int k = n; k >= 1; k--) {
+                bytes = bytes << 8 | written + k & 255;
+            }
+            if (x.write(0, 1, bytes, n, false) >= 0) {
+                written += n;
+            }
+            x.pump(0, 1);
+            x.deliver(1);
+            int unread = x.bytes(1, 1, true);
+            int most = 1 + round % 7;
+            long want = 0;
+            for (int k = Math.min(most, unread); k >= 1; k--) {
+                want = want << 8 | read + k & 255;
+            }
+            due.is("round " + round, x.read(1, 1, most), want);
+            read += Math.min(most, unread);
+            Scenes.drain(x, 0);
+        }
+        due.is("written", written, read + x.bytes(0, 1, false) + x.bytes(1, 1, true));
+        due.yes("more than ever wait at once", read > 64);
     }
 
     private static void writeLast(Due due) {

@@ -20,6 +20,7 @@ public final class EdgesOfTermsTest {
         s.holds("a receive window for the link, 40 at first", EdgesOfTermsTest::linkReceiveWindow);
         s.holds("at first the send window the FIRST WINDOW that the other end has told", EdgesOfTermsTest::firstSend);
         s.holds("at first the receive window the own first window IN FORCE", EdgesOfTermsTest::firstReceive);
+        s.holds("1 the TABLE LIMIT (0 .. 200; 100 at first)", EdgesOfTermsTest::hundredAtFirst);
         s.holds("4 the FIRST WINDOW (0 .. 64; 16 at first)", EdgesOfTermsTest::sixteenAtFirst);
         s.holds("3 the most STREAMS (0 .. 12; 12 at first)", EdgesOfTermsTest::twelveAtFirst);
         s.holds("that of end 1 counts alone", EdgesOfTermsTest::endOneCountsAlone);
@@ -264,6 +265,22 @@ public final class EdgesOfTermsTest {
         }
     }
 
+    /** The ACK for the SETTINGS that nobody sent comes for the first window, which stays 16. */
+    private static void hundredAtFirst(Due due) {
+        for (int told : new int[] {0, 99, 100, 101, 200}) {
+            InterleavedLink x = new InterleavedLink();
+            x.inject(0, 4, 1, told, false);
+            x.setting(1, 4, 16);
+            due.is("told", x.deliver(0), 0);
+            Scenes.request(x, true);
+            due.is("the ACK", x.deliver(1), 0);
+            due.is("MAXIMUM " + told, x.deliver(1), told <= 100 ? 0 : 109);
+        }
+        InterleavedLink x = new InterleavedLink();
+        Scenes.request(x, true);
+        due.is("no MAXIMUM before one is told", x.frame(1, 0, 2), 1);
+    }
+
     private static void sixteenAtFirst(Due due) {
         for (int end = 0; end < 2; end++) {
             InterleavedLink x = Scenes.responded(1);
@@ -339,6 +356,21 @@ public final class EdgesOfTermsTest {
             due.is("in force", x.window(1, 1, true), value);
         }
         due.is("a ninth ACK", Scenes.got(x, 1, 4, 0, 0, true), 101);
+        InterleavedLink y = Scenes.requested(1);
+        int sent = 0;
+        int came = 0;
+        for (int round = 0; round < 6; round++) {
+            while (sent < came + 8) {
+                sent++;
+                due.yes("setting", y.setting(1, 4, sent));
+                y.deliver(0);
+            }
+            for (int k = 0; k < 5; k++) {
+                came++;
+                due.is("the ACK", y.deliver(1), 0);
+                due.is("in force", y.window(1, 1, true), came);
+            }
+        }
     }
 
     private static void receiveWindowsChange(Due due) {
